@@ -88,13 +88,11 @@ public final class HoneyAccord {
     private final Hive trial = new Hive(told);
     private int errorPosition = NONE;
 
-    /** Creates a hive without drones, deals and orders, in the day 0, whose queen is awake. */
     public HoneyAccord() {
     }
 
     // ---- the language
 
-    /** Appends the twenty bytes of five numbers to the tape; returns the bytes that the tape has then. */
     public int feed(int a, int b, int c, int d, int e) throws IllegalStateException {
         if (tape.length > LONGEST_TAPE - BYTES_A_FEED) {
             throw new IllegalStateException("the tape would be longer than 2000 bytes");
@@ -107,7 +105,6 @@ public final class HoneyAccord {
         return tape.length;
     }
 
-    /** Keeps the first n bytes of the tape; returns n. */
     public int trim(int n) throws IllegalArgumentException {
         if (n < 0 || n > tape.length) {
             throw new IllegalArgumentException("the tape does not have so many bytes");
@@ -116,7 +113,6 @@ public final class HoneyAccord {
         return n;
     }
 
-    /** Reads the tape as a hive in the place of the one before; returns 0 or the error, 1 to 5. */
     public int teach() {
         int error = teacher.readHive();
         errorPosition = teacher.errorPosition();
@@ -128,69 +124,57 @@ public final class HoneyAccord {
         return error;
     }
 
-    /** Returns the position of the error of the latest teach(), -1 if there was none. */
     public int errorAt() {
         return errorPosition;
     }
 
     // ---- the hive
 
-    /** Returns how many drones there are. */
     public int drones() {
         return told.droneCount;
     }
 
-    /** Returns how many deals there are. */
     public int deals() {
         return told.dealCount;
     }
 
-    /** Returns the day. */
     public int day() {
         return now.today;
     }
 
-    /** Returns how many orders were carried out in all. */
     public int ordersCarriedOut() {
         return now.ordersDone;
     }
 
-    /** Returns how many drones are blocked. */
     public int blocked() {
         return now.countBlocked();
     }
 
-    /** Returns how much honey all drones have together. */
     public int honey() {
         return now.stores.sum(told.droneCount);
     }
 
-    /** Returns whether the queen is awake. */
     public boolean isQueenAwake() {
         return now.queenIsUp;
     }
 
     // ---- drones
 
-    /** Returns how much honey a drone has. */
     public int honeyOf(int drone) throws IndexOutOfBoundsException {
         requireDrone(drone);
         return now.stores.get(drone);
     }
 
-    /** Returns whether a drone is awake. */
     public boolean isAwake(int drone) throws IndexOutOfBoundsException {
         requireDrone(drone);
         return now.isUp(drone);
     }
 
-    /** Returns the deal by which a drone is blocked, -1 if by none. */
     public int blockedBy(int drone) throws IndexOutOfBoundsException {
         requireDrone(drone);
         return now.blocker.get(drone);
     }
 
-    /** Returns how many lines the log of a drone has. */
     public int logOf(int drone) throws IndexOutOfBoundsException {
         requireDrone(drone);
         return now.logLines.get(drone);
@@ -198,55 +182,46 @@ public final class HoneyAccord {
 
     // ---- deals
 
-    /** Returns 0 if a deal rests, 1 if it is begun, 2 granted, 3 refused. */
     public int stateOf(int deal) throws IndexOutOfBoundsException {
         requireDeal(deal);
         return now.progress.get(deal);
     }
 
-    /** Returns how many days ago a deal was begun, 0 if it is not begun. */
     public int waitsOf(int deal) throws IndexOutOfBoundsException {
         requireDeal(deal);
         return now.daysWaited(deal);
     }
 
-    /** Returns how many parts a deal has. */
     public int partsOf(int deal) throws IndexOutOfBoundsException {
         requireDeal(deal);
         return told.partCount.get(deal);
     }
 
-    /** Returns the drone of a part. */
     public int droneIn(int deal, int part) throws IndexOutOfBoundsException {
         requirePart(deal, part);
         return told.partDrone.get(slot(deal, part));
     }
 
-    /** Returns how much more honey the drone of a part has by it. */
     public int changeIn(int deal, int part) throws IndexOutOfBoundsException {
         requirePart(deal, part);
         return told.partChange.get(slot(deal, part));
     }
 
-    /** Returns 0 if a part has not voted, 1 if it has voted yes, 2 no. */
     public int voteIn(int deal, int part) throws IndexOutOfBoundsException {
         requirePart(deal, part);
         return now.votes.get(slot(deal, part));
     }
 
-    /** Returns whether the drone of a part has heard what came of the deal. */
     public boolean hasHeard(int deal, int part) throws IndexOutOfBoundsException {
         requirePart(deal, part);
         return now.heard.get(slot(deal, part)) != 0;
     }
 
-    /** Returns how many parts of a deal have voted yes. */
     public int votesFor(int deal) throws IndexOutOfBoundsException {
         requireDeal(deal);
         return now.countVotes(deal, YES);
     }
 
-    /** Returns whether all drones of a deal would vote yes now, asleep or not. */
     public boolean wouldAgree(int deal) throws IndexOutOfBoundsException {
         requireDeal(deal);
         return now.allCanAgree(deal);
@@ -254,7 +229,6 @@ public final class HoneyAccord {
 
     // ---- by hand
 
-    /** Begins a deal; returns how many deals are begun then. */
     public int begin(int deal) throws IndexOutOfBoundsException, IllegalStateException {
         requireDeal(deal);
         if (!now.startDeal(deal)) {
@@ -263,7 +237,6 @@ public final class HoneyAccord {
         return now.countBegun();
     }
 
-    /** Crashes a drone; returns how many drones are awake then. */
     public int crash(int drone) throws IndexOutOfBoundsException, IllegalStateException {
         requireDrone(drone);
         if (!now.putToSleep(drone)) {
@@ -272,7 +245,6 @@ public final class HoneyAccord {
         return now.countUp();
     }
 
-    /** Wakes a drone; returns how many drones are awake then. */
     public int wake(int drone) throws IndexOutOfBoundsException, IllegalStateException {
         requireDrone(drone);
         if (!now.rouse(drone)) {
@@ -281,7 +253,6 @@ public final class HoneyAccord {
         return now.countUp();
     }
 
-    /** Crashes the queen; returns how many deals are begun. */
     public int crashQueen() throws IllegalStateException {
         if (!now.putToSleep(THE_QUEEN)) {
             throw new IllegalStateException("the queen is asleep");
@@ -289,7 +260,6 @@ public final class HoneyAccord {
         return now.countBegun();
     }
 
-    /** Wakes the queen; returns how many deals are refused by this. */
     public int wakeQueen() throws IllegalStateException {
         int open = now.countBegun();
         if (!now.rouse(THE_QUEEN)) {
@@ -300,7 +270,6 @@ public final class HoneyAccord {
 
     // ---- days and what would be
 
-    /** Lets days go by; returns how often a drone hears in them. */
     public int passDays(int days) throws IllegalArgumentException {
         requireDays(days);
         int hearings = 0;
@@ -310,7 +279,6 @@ public final class HoneyAccord {
         return hearings;
     }
 
-    /** Returns how much honey a drone has behind so many days. */
     public int honeyAfter(int drone, int days) throws IndexOutOfBoundsException, IllegalArgumentException {
         requireDrone(drone);
         requireDays(days);
@@ -318,7 +286,6 @@ public final class HoneyAccord {
         return trial.stores.get(drone);
     }
 
-    /** Returns the state of a deal behind so many days. */
     public int stateAfter(int deal, int days) throws IndexOutOfBoundsException, IllegalArgumentException {
         requireDeal(deal);
         requireDays(days);
@@ -326,7 +293,6 @@ public final class HoneyAccord {
         return trial.progress.get(deal);
     }
 
-    /** Returns behind how many days, at most 40, a drone is blocked by none; -1 if not by then. */
     public int daysUntilFree(int drone) throws IndexOutOfBoundsException {
         requireDrone(drone);
         trial.copyFrom(now);
@@ -338,7 +304,6 @@ public final class HoneyAccord {
         return trial.blocker.get(drone) == NONE ? days : NONE;
     }
 
-    /** Returns the sleeping drone whose waking leaves the fewest blocked three days later; -1 if none sleeps. */
     public int bestToWake() {
         int best = NONE;
         int fewest = 0;
@@ -359,13 +324,11 @@ public final class HoneyAccord {
         return best;
     }
 
-    /** Returns the mean honey of drones, 0 without any. */
     public double meanHoney() {
         int count = drones();
         return count == 0 ? 0.0 : (double) honey() / count;
     }
 
-    /** Computes a checksum of all that can be asked. */
     public long digest() {
         long d = DIGEST_START;
         d = mixed(d, drones());
@@ -484,7 +447,6 @@ public final class HoneyAccord {
         }
     }
 
-    /** The bytes that were fed. */
     private static final class Tape {
         private final Row bytes = new Row(LONGEST_TAPE);
         private int length;
@@ -620,7 +582,6 @@ public final class HoneyAccord {
         }
     }
 
-    /** Names in the order in which they were told. */
     private static final class Names {
         private final long[] words;
         private int count;
@@ -672,7 +633,6 @@ public final class HoneyAccord {
             dealCount = 0;
             orderCount = 0;
             codeLength = 0;
-            partCount.setAll(0);
         }
 
         void addCode(int kind, int detail) {
@@ -1004,7 +964,6 @@ public final class HoneyAccord {
         }
     }
 
-    /** Reckons the tests of orders. */
     private static final class Reckoner {
         private final Row stack = new Row(MOST_TOKENS);
         private int height;
@@ -1097,7 +1056,6 @@ public final class HoneyAccord {
         }
     }
 
-    /** How all stands, and how days go. */
     private static final class Hive {
         private final Plan plan;
         private final Reckoner reckoner = new Reckoner();
@@ -1257,7 +1215,6 @@ public final class HoneyAccord {
             }
         }
 
-        /** Returns how often a drone heard. */
         int passOneDay() {
             obeyOrders();
             if (queenIsUp) {

@@ -9,6 +9,7 @@ public final class DaysTest {
         hearingsAreCounted();
         ordersGoInTheirOrder();
         ordersThatCannotBeDone();
+        eachOrderHasItsOwnTest();
         testsLookAtTheHive();
         testsReckonIn32Bits();
         bindingOfSigns();
@@ -72,6 +73,15 @@ public final class DaysTest {
         Check.same("it was begun", 2, hive.stateOf(0));
     }
 
+    private static void eachOrderHasItsOwnTest() {
+        HoneyAccord hive = Check.hive(PAIR + "crash a when 1 = 2; crash b; crash queen when day = 1; crash c when 1 = 1;");
+        hive.passDays(1);
+        Check.so("a's test fails", hive.isAwake(0));
+        Check.notSo("b has none", hive.isAwake(1));
+        Check.so("the queen's test fails today", hive.isQueenAwake());
+        Check.notSo("c's test holds", hive.isAwake(2));
+    }
+
     private static void testsLookAtTheHive() {
         String hive = "drone a honey 10; drone b honey 7; drone z honey 0; deal p moves a gives 1, b gives 1;"
             + "deal q moves a gets 5; crash b when day = 0; begin p when day = 0; begin q when day = 0;";
@@ -119,6 +129,12 @@ public final class DaysTest {
         fails("", 0, "not [1 = 2 or 1 = 1]");
         holds("", 0, "not not 1 = 1");
         fails("", 0, "not 1 = 2 and 1 = 2");
+        fails("", 0, "1 = 2 and 1 = 1");
+        fails("", 0, "1 = 1 and 1 = 2 and 1 = 1");
+        holds("", 0, "1 = 1 and 1 = 1 and 1 = 1");
+        holds("", 0, "1 = 1 or 1 = 2");
+        holds("", 0, "1 = 2 or 1 = 1 or 1 = 2");
+        fails("", 0, "1 = 2 or 1 = 2 or 1 = 2");
         holds("", 0, "not 1 = 1 or 1 = 1");
     }
 

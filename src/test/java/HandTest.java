@@ -52,6 +52,10 @@ public final class HandTest {
         hive.passDays(1);
         Check.same("refused and heard", 1, hive.begin(0));
         Check.same("waits begins anew", 0, hive.waitsOf(0));
+        hive.crash(0);
+        hive.passDays(4);
+        Check.so("b has heard", hive.hasHeard(0, 1));
+        Check.cannot("begin of what a has not heard", () -> hive.begin(0));
     }
 
     private static void beginOfNone() {

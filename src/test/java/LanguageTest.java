@@ -13,6 +13,8 @@ public final class LanguageTest {
         trimRefuses();
         teachEmptiesTheTape();
         teachBeginsAnew();
+        teachForgetsVotesAndHearing();
+        teachCanBeCalledAgainAndAgain();
         teachWithAnErrorChangesNothing();
         errorAtIsOfTheLatest();
         tokensAreRead();
@@ -129,6 +131,34 @@ public final class LanguageTest {
         Check.same("none was carried out", 0, hive.ordersCarriedOut());
     }
 
+    private static void teachForgetsVotesAndHearing() {
+        String text = TWO + "deal d moves a gives 1, b gives 1; begin d when day = 9;";
+        HoneyAccord hive = Check.hive(text);
+        hive.begin(0);
+        hive.passDays(1);
+        long voted = hive.voteIn(0, 0) * hive.voteIn(0, 1);
+        Check.same("both voted", 1, voted);
+        Check.learns(hive, text);
+        for (int part = 0; part < 2; part++) {
+            Check.same("no vote of part " + part, 0, hive.voteIn(0, part));
+            Check.notSo("no hearing of part " + part, hive.hasHeard(0, part));
+        }
+        Check.same("it is as new", Check.hive(text).digest(), hive.digest());
+    }
+
+    private static void teachCanBeCalledAgainAndAgain() {
+        HoneyAccord hive = new HoneyAccord();
+        String full = "wake queen when 1 = - 1" + Check.times(196, "+1") + ";";
+        for (int i = 0; i < 5; i++) {
+            Check.learns(hive, full);
+            Check.learns(hive, "crash queen when 1 = 2; crash queen when day = 1;");
+            hive.passDays(1);
+            Check.so("the first test fails", hive.isQueenAwake());
+            hive.passDays(1);
+            Check.notSo("the second holds", hive.isQueenAwake());
+        }
+    }
+
     private static void teachWithAnErrorChangesNothing() {
         HoneyAccord hive = Check.hive(TWO + DEAL + "begin d when day = 1;");
         hive.crash(1);
@@ -154,6 +184,15 @@ public final class LanguageTest {
         Check.same("errorAt behind a feed", 2, hive.errorAt());
         hive.teach();
         Check.same("errorAt behind a teach without error", -1, hive.errorAt());
+        Check.feed(hive, "drone a honey 61;");
+        Check.same("teach of 61", 5, hive.teach());
+        Check.same("errorAt of 61", 14, hive.errorAt());
+        Check.learns(hive, "drone a honey 60;");
+        Check.feed(hive, "drone a honey 1; begin a;");
+        Check.same("teach of a deal that is none", 3, hive.teach());
+        Check.same("errorAt of it", 23, hive.errorAt());
+        Check.same("teach of nothing", 0, hive.teach());
+        Check.same("errorAt of nothing", -1, hive.errorAt());
     }
 
     private static void tokensAreRead() {
@@ -260,6 +299,8 @@ public final class LanguageTest {
         Check.wrong(1, start + Check.times(8, "not ") + "^not 1 = 1;");
         Check.hive(start + Check.times(8, "min(1, ") + "1" + Check.times(8, ")") + " = 1;");
         Check.wrong(1, start + Check.times(8, "max(1, ") + "min^(1, 1)" + Check.times(8, ")") + " = 1;");
+        Check.hive(start + Check.times(8, "max(") + "1" + Check.times(8, ", 1)") + " = 1;");
+        Check.wrong(1, start + Check.times(8, "min(") + "max^(1, 1)" + Check.times(8, ", 1)") + " = 1;");
         Check.hive(start + "not [not [(-(-1)) = -(1)]];");
         Check.wrong(1, start + "not [not [(-(-^((1)))) = 1]];");
         Check.wrong(1, start + "not [not [not not -(1) = -(^-1)]];");
