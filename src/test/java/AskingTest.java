@@ -24,9 +24,11 @@ public final class AskingTest {
         hearingOfParts();
         votesAreCounted();
         agreement();
+        agreementOfOthers();
         agreementAtTheBounds();
         dealsThatAreNone();
         partsThatAreNone();
+        fullHive();
         Check.finish();
     }
 
@@ -266,6 +268,15 @@ public final class AskingTest {
         Check.same("asking changes nothing", before, hive.digest());
     }
 
+    private static void agreementOfOthers() {
+        HoneyAccord hive = Check.hive(FOUR + PAY + "deal one moves b gets 1;");
+        hive.crash(1);
+        hive.begin(0);
+        hive.passDays(1);
+        Check.same("a is blocked", 0, hive.blockedBy(0));
+        Check.so("b would agree without a", hive.wouldAgree(1));
+    }
+
     private static void agreementAtTheBounds() {
         HoneyAccord hive = Check.hive("drone a honey 60; drone b honey 7; deal up moves a gets 20; deal x moves a gets 19;"
             + "deal y moves a gets 20; deal out moves b gives 7; deal over moves b gives 8; deal one moves b gives 1;");
@@ -308,6 +319,46 @@ public final class AskingTest {
         }
         partIsNone(hive, 1, -1);
         partIsNone(hive, 1, 3);
+    }
+
+    /** With as much of all as may be told, nothing of one deal may be taken for that of the next. */
+    private static void fullHive() {
+        StringBuilder text = new StringBuilder();
+        for (char drone = 'a'; drone <= 'h'; drone++) {
+            text.append("drone ").append(drone).append(" honey 20;");
+        }
+        for (char deal = 'p'; deal <= 'u'; deal++) {
+            text.append("deal ").append(deal).append(" moves ");
+            text.append("a gives 1, b gives 1, d gives 1, e gets 1, f gets 1, ").append(deal == 'p' ? 'c' : 'h').append(" gets 1;");
+        }
+        text.append("wake queen when day = 99;".repeat(15)).append("begin u when day = 9;");
+        HoneyAccord hive = Check.hive(text.toString());
+        Check.same("none of eight is blocked", 0, hive.blocked());
+        Check.same("six parts hear", 6, begunAndPassed(hive, 1));
+        Check.same("all voted for 1", 6, hive.votesFor(1));
+        Check.same("none voted for 0", 0, hive.votesFor(0));
+        hive.begin(0);
+        Check.same("1 keeps its votes", 1, hive.voteIn(1, 0));
+        Check.so("and what was heard", hive.hasHeard(1, 0));
+        hive.crashQueen();
+        Check.same("the queen is none to be told", -1, hive.bestToWake());
+        hive.wakeQueen();
+        hive.crashQueen();
+        Check.same("who heard of 1 tells nothing of 0", 0, hive.passDays(1));
+        hive.wakeQueen();
+        Check.same("the queen does", 6, hive.passDays(1));
+        Check.same("six parts of the last deal hear", 6, begunAndPassed(hive, 5));
+        Check.same("h has got twice", 22, hive.honeyOf(7));
+        Check.same("the drone of the last part", 7, hive.droneIn(5, 5));
+        Check.same("its change", 1, hive.changeIn(5, 5));
+        Check.same("its vote", 1, hive.voteIn(5, 5));
+        hive.passDays(6);
+        Check.same("the last order of sixteen", 1, hive.ordersCarriedOut());
+    }
+
+    private static int begunAndPassed(HoneyAccord hive, int deal) {
+        hive.begin(deal);
+        return hive.passDays(1);
     }
 
     private static void partIsNone(HoneyAccord hive, int deal, int part) {
