@@ -23,6 +23,10 @@ final class Check {
         count(got, what, true, got);
     }
 
+    static void same(String what, boolean due, boolean got) {
+        count(due == got, what, due, got);
+    }
+
     static void notSo(String what, boolean got) {
         count(!got, what, false, got);
     }
