@@ -48,6 +48,7 @@ public final class HiveBoundsTest {
         agreementNeedsAll();
         daysAre1To30();
         foretellingEndsOnTheDay();
+        foretellingBeginsWithAllThatIs();
         freeBehind0To40Days();
         threeDaysDecideWhomToWake();
         fewestBlockedDecideWhomToWake();
@@ -901,6 +902,29 @@ public final class HiveBoundsTest {
         for (int days = 1; days <= due.length; days++) {
             Check.same("state behind " + days, due[days - 1], states.stateAfter(0, days));
         }
+    }
+
+    /** What has come about so far counts in the tests of the days that are foretold. */
+    private static void foretellingBeginsWithAllThatIs() {
+        String bees = "drone a honey 10; drone b honey 10; drone s honey 0; drone t honey 0; deal p moves a gives 1, b gives 1; ";
+        String[] tests = {"done = 2 and day > 2", "day = 3", "honey of a = 9 and day = 4", "waits of p = 0 and day = 4",
+            "not awake s and day = 5", "blocked = 0 and done = 2 and day = 6"};
+        for (String test : tests) {
+            HoneyAccord hive = Check.hive(bees + "begin p when day = 0; crash s when day = 2; begin p when " + test + ";");
+            hive.passDays(3);
+            Check.same("honey of a, " + test, 8, hive.honeyAfter(0, 5));
+            Check.same("two were done", 2, hive.ordersCarriedOut());
+            hive.passDays(5);
+            Check.same("it comes true, " + test, 8, hive.honeyOf(0));
+            Check.same("three are done", 3, hive.ordersCarriedOut());
+        }
+        HoneyAccord waiting = Check.hive(bees + "begin p when day = 0; crash b when day = 0; wake b when waits of p = 2;");
+        waiting.passDays(1);
+        Check.same("free as b is woken by its waiting", 2, waiting.daysUntilFree(0));
+        Check.same("honey then", 9, waiting.honeyAfter(0, 2));
+        HoneyAccord woken = Check.hive(bees + "begin p when done = 2; crash b when day = 0; crash s when day = 0;");
+        woken.passDays(1);
+        Check.same("b, as a deal that waits for it is begun now", 1, woken.bestToWake());
     }
 
     // ---- promise 34: "0 if it is so now, at most 40; -1 if not by then"

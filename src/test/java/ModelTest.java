@@ -56,7 +56,7 @@ public final class ModelTest {
             }
             text.append(some(9) == 0 ? "\n ;" : ";");
         }
-        for (int i = 0; i < orders && text.length() < 1500; i++) {
+        for (int i = 0; i < orders && text.length() < 1300; i++) {
             text.append(someOrder(drones, deals)).append(';');
         }
         return text.toString();

@@ -14,6 +14,7 @@ public final class TapeBoundsTest {
         quotientsAreCutTowards0();
         quotientsWith0AndTheSmallest();
         positionsAreCountedFrom0();
+        everyByteOfAFeedHasItsPlace();
         tapeHoldsAtMost2000();
         tapeOf2000IsReadToItsEnd();
         trimTakes0ToTheLength();
@@ -30,6 +31,7 @@ public final class TapeBoundsTest {
         wordsHaveAtMost10();
         numbersHave1To6();
         keywordsAreNoNames();
+        namesOfTwoSignsDiffer();
         rowsCanBeEmptyOrLong();
         testsStandBehindOrdersAlone();
         depthOfEachOpening();
@@ -118,6 +120,21 @@ public final class TapeBoundsTest {
     }
 
     // ---- "a row of at most 2000 bytes", and promises 2 to 5
+
+    private static void everyByteOfAFeedHasItsPlace() {
+        for (int place = 0; place < 20; place++) {
+            for (int b : new int[] {0, 1, 9, 11, 127, 128, 200, 255}) {
+                int[] words = {0x20202020, 0x20202020, 0x20202020, 0x20202020, 0x20202020};
+                int shift = 24 - place % 4 * 8;
+                words[place / 4] = words[place / 4] & ~(255 << shift) | b << shift;
+                HoneyAccord hive = new HoneyAccord();
+                hive.feed(0x20202020, 0x0a0a0a0a, 0x20202020, 0x20202020, 0x20202020);
+                Check.same("second feed", 40, hive.feed(words[0], words[1], words[2], words[3], words[4]));
+                Check.same("byte " + b + " in place " + place, 1, hive.teach());
+                Check.same("its position", 20 + place, hive.errorAt());
+            }
+        }
+    }
 
     private static void tapeHoldsAtMost2000() {
         for (int length : new int[] {1960, 1979, 1980, 1981, 1999, 2000}) {
@@ -370,6 +387,31 @@ public final class TapeBoundsTest {
             String shorter = word.substring(0, word.length() - 1);
             Check.hive("drone " + shorter + " honey 1; wake " + shorter + " when awake " + shorter + ";");
         }
+    }
+
+    /** Fourteen names at a time, from far and near, as no two of them may be taken for one. */
+    private static void namesOfTwoSignsDiffer() {
+        for (int step : new int[] {1, 5, 26, 31, 37, 101, 185, 211, 349}) {
+            for (int first = 0; first < 936; first += 13) {
+                StringBuilder text = new StringBuilder();
+                for (int i = 0; i < 14; i++) {
+                    text.append(i < 8 ? "drone " : "deal ").append(twoSigns(first + i * step));
+                    text.append(i < 8 ? " honey 1; " : " moves " + twoSigns(first) + " gives 1; ");
+                }
+                Check.hive(text.toString());
+                Check.wrong(2, text + "drone ^" + twoSigns(first + first % 14 * step) + " honey 1;");
+            }
+        }
+        Check.hive("drone az honey 1; drone a0 honey 1; drone a9 honey 1; drone b honey 1; drone ar honey 1; drone f0 honey 1;");
+        Check.hive("drone a honey 1; drone aa honey 1; drone aaa honey 1; drone aaaaaaaaaa honey 1; drone aaaaaaaaa honey 1;");
+    }
+
+    /** A letter and a letter or digit behind it; the keywords of two signs are told apart by a third. */
+    private static String twoSigns(int number) {
+        String signs = "abcdefghijklmnopqrstuvwxyz0123456789";
+        int place = number % 936;
+        String name = "" + signs.charAt(place / 36) + signs.charAt(place % 36);
+        return name.equals("of") || name.equals("or") ? name + "x" : name;
     }
 
     // ---- "{ x } any number of times, also none"
