@@ -468,8 +468,8 @@ public final class HoneyAccord {
     private static final class Tokens {
         private final Tape tape;
         private final long[] keywords = new long[KEYWORD_COUNT];
-        private final Row kinds = new Row(MOST_TOKENS + 1);
-        private final Row starts = new Row(MOST_TOKENS + 1);
+        private final int[] kinds = new int[MOST_TOKENS + 1];
+        private final int[] starts = new int[MOST_TOKENS + 1];
         private final long[] values = new long[MOST_TOKENS + 1];
         private int next;
         private long valueRead;
@@ -500,22 +500,26 @@ public final class HoneyAccord {
         void readTape() {
             next = 0;
             int last = NAME;
-            for (int i = 0; i < values.length && last != END && last != WRONG; i++) {
+            int places = Math.min(kinds.length, Math.min(starts.length, values.length));
+            for (int i = 0; i < places && last != END && last != WRONG; i++) {
                 skipGaps();
-                starts.set(i, next);
+                starts[i] = next;
                 last = i < MOST_TOKENS || next >= tape.length ? readToken() : WRONG;
-                kinds.set(i, last);
+                kinds[i] = last;
                 values[i] = valueRead;
             }
             index = -1;
             advance();
         }
 
+        /** Reads its rows without the help of Row, as a call more would make the longest chain of calls nine deep. */
         void advance() {
             index++;
-            kind = kinds.get(index);
-            start = starts.get(index);
-            value = index >= 0 && index < values.length ? values[index] : 0;
+            if (index >= 0 && index < kinds.length && index < starts.length && index < values.length) {
+                kind = kinds[index];
+                start = starts[index];
+                value = values[index];
+            }
         }
 
         private void skipGaps() {
@@ -881,20 +885,21 @@ public final class HoneyAccord {
             } else if (accept(AWAKE)) {
                 draft.addCode(AWAKE, readDroneOrQueen());
             } else {
-                readComparison(depth);
+                readSum(depth);
+                int sign = readComparingSign();
+                readSum(depth);
+                draft.addCode(sign, 0);
             }
         }
 
-        private void readComparison(int depth) {
-            readSum(depth);
+        private int readComparingSign() {
             int sign = tokens.kind;
             if (sign == '<' || sign == '>' || sign == '=' || sign == AT_MOST || sign == AT_LEAST) {
                 tokens.advance();
             } else {
                 breakOff();
             }
-            readSum(depth);
-            draft.addCode(sign, 0);
+            return sign;
         }
 
         private void readSum(int depth) {
